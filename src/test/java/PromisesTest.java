@@ -79,15 +79,17 @@ public final class PromisesTest {
     }
 
     private static String row(ToneButterflies x, int row) {
+        int length = x.count(0);
         StringBuilder told = new StringBuilder();
-        for (int place = 0; place < x.count(0); place++) {
+        for (int place = 0; place < length; place++) {
             told.append(place == 0 ? "" : " ").append(x.at(row, place));
         }
         return told.toString();
     }
 
     private static void put(ToneButterflies x, int row, int... numbers) {
-        for (int place = 0; place < x.count(0); place++) {
+        int length = x.count(0);
+        for (int place = 0; place < length; place++) {
             x.set(row, place, place < numbers.length ? numbers[place] : 0);
         }
     }
@@ -422,8 +424,9 @@ public final class PromisesTest {
     }
 
     private static void aboutDue(ToneButterflies x, int row, int... told) {
+        String numbers = row(x, row);
         for (int what = 0; what < 5; what++) {
-            due("17: about(" + row + ", " + what + ") of " + row(x, row), x.about(row, what), told[what]);
+            due("17: about(" + row + ", " + what + ") of " + numbers, x.about(row, what), told[what]);
         }
     }
 
@@ -538,14 +541,14 @@ public final class PromisesTest {
     }
 
     private static void digest() {
+        digestDue(new ToneButterflies());
         ToneButterflies x = new ToneButterflies();
-        digestDue(x);
         put(x, 0, 16, 1, 2, 3);
         put(x, 2, 5, 5, 5, 5, 5, 5, 5, 5);
         digestDue(x);
-        x.ring(4, 5);
-        put(x, 3, 4, 3, 2, 1);
-        digestDue(x);
+        ToneButterflies y = of(4, 5);
+        put(y, 3, 4, 3, 2, 1);
+        digestDue(y);
         // the least one, written out: 8 17 2 9 15 3, then for each row eight 0, 0 0 -1 1 0, eight 0
         long d = 1777L;
         for (int number : new int[] {8, 17, 2, 9, 15, 3}) {
@@ -561,18 +564,19 @@ public final class PromisesTest {
 
     private static void digestDue(ToneButterflies x) {
         String before = state(x);
+        int length = x.count(0);
         long d = 1777L;
         for (int what = 0; what < 6; what++) {
             d = d * 31L + x.count(what);
         }
         for (int row = 0; row < 4; row++) {
-            for (int place = 0; place < x.count(0); place++) {
+            for (int place = 0; place < length; place++) {
                 d = d * 31L + x.at(row, place);
             }
             for (int what = 0; what < 5; what++) {
                 d = d * 31L + x.about(row, what);
             }
-            for (int place = 0; place < x.count(0); place++) {
+            for (int place = 0; place < length; place++) {
                 d = d * 31L + x.point(row, x.root(place));
             }
         }
