@@ -194,6 +194,13 @@ public final class BoundariesTest {
             return x;
         }
 
+        /** One row is the given one, all others are 0. */
+        ToneButterflies with(int row, int... numbers) {
+            ToneButterflies x = zeros();
+            put(x, row, numbers);
+            return x;
+        }
+
         ToneButterflies greatest() {
             return of(same(n, p - 1), same(n, p - 1), same(n, p - 1), same(n, p - 1));
         }
@@ -975,11 +982,14 @@ public final class BoundariesTest {
     private static void turnReturnsThePlace0() {
         sentence("Promise 8", "Returns the number at its place 0 then");
         for (Ring ring : RINGS) {
+            int n = ring.n;
             due(ring + "turn(3, false) of 0", ring.zeros().turn(3, false), 0);
             due(ring + "turn(3, true) of 0", ring.zeros().turn(3, true), 0);
-            due(ring + "turn(3, false) of p - 1", ring.greatest().turn(3, false), ring.p - ring.n);
+            due(ring + "turn(3, false) of the row 3 alone", ring.with(3, same(n, 1)).turn(3, false), n);
+            due(ring + "turn(3, true) of the row 3 alone", ring.with(3, same(n, 1)).turn(3, true), 1);
+            due(ring + "turn(3, false) of p - 1", ring.greatest().turn(3, false), ring.p - n);
             due(ring + "turn(3, true) of p - 1", ring.greatest().turn(3, true), ring.p - 1);
-            int[] last = only(ring.n, ring.n - 1, ring.p - 1);
+            int[] last = only(n, n - 1, ring.p - 1);
             due(ring + "turn(0, false) of the last place", ring.of(last).turn(0, false), ring.p - 1);
             due(ring + "turn(0, true) of the last place", ring.of(last).turn(0, true), ring.p - ring.lengthInverse);
         }
@@ -1015,6 +1025,7 @@ public final class BoundariesTest {
             due(ring + "mirror of the place 0", ring.of(only(n, 0, 1)).mirror(0), 0);
             due(ring + "mirror of the last place", ring.of(only(n, n - 1, 1)).mirror(0), 0);
             due(ring + "mirror of the place 1", ring.of(only(n, 1, 1)).mirror(0), 2);
+            due(ring + "mirror of the row 3 alone", ring.with(3, only(n, n / 2, 1)).mirror(3), 2);
             // each place but those whose bits are the same in the turned order: 2, 4 and 4 of them
             int others = n == 4 ? 2 : n == 8 ? 4 : 12;
             due(ring + "mirror of different numbers", ring.of(places(n)).mirror(0), others);
@@ -1057,6 +1068,7 @@ public final class BoundariesTest {
                 int s = stage;
                 due(call + "0", ring.zeros().stage(3, s), 0);
                 due(call + "p - 1", ring.greatest().stage(3, s), ring.p - 2);
+                due(call + "the row 3 alone", ring.with(3, only(ring.n, h, 1)).stage(3, s), 1);
                 due(call + "1 and p - 1", ring.of(pair(ring.n, 0, 1, h, ring.p - 1)).stage(0, s), 0);
                 due(call + "0 and p - 1", ring.of(only(ring.n, h, ring.p - 1)).stage(0, s), ring.p - 1);
             }
@@ -1151,6 +1163,7 @@ public final class BoundariesTest {
             due(ring + "fold of 0", ring.zeros().fold(3, 0), 0);
             due(ring + "fold of p - 1", ring.greatest().fold(0, 3), n);
             due(ring + "fold of p - 1 with itself", ring.greatest().fold(3, 3), n);
+            due(ring + "fold of the row 3 alone", ring.with(3, same(n, 1)).fold(3, 3), n);
             due(ring + "fold of 1 and last", ring.of(only(n, 1, end), only(n, n - 1, 1)).fold(0, 1), end);
             due(ring + "fold of two last", ring.of(only(n, n - 1, end), only(n, n - 1, 1)).fold(0, 1), 0);
         }
@@ -1211,6 +1224,7 @@ public final class BoundariesTest {
             int n = ring.n;
             int end = ring.p - 1;
             due(ring + "sums of 0", ring.zeros().join(0, 3, 0), 0);
+            due(ring + "sums in the row 3 alone", ring.with(3, same(n, 1)).join(3, 0, 0), n);
             due(ring + "sums of p", ring.of(same(n, 1), same(n, end)).join(0, 1, 0), 0);
             due(ring + "sums of p - 1", ring.greatest().join(3, 0, 0), n);
             due(ring + "differences of p - 1", ring.greatest().join(3, 0, 1), 0);
@@ -1281,6 +1295,9 @@ public final class BoundariesTest {
             due(ring + "move(0, 0)", ring.of(places(n)).move(0, 0), 0);
             due(ring + "move(0, 1)", ring.of(places(n)).move(0, 1), n - 1);
             due(ring + "move(0, n - 1)", ring.of(places(n)).move(0, n - 1), 1);
+            due(ring + "move(3, 0)", ring.with(3, only(n, 0, 1)).move(3, 0), 1);
+            due(ring + "move(3, 1)", ring.with(3, places(n)).move(3, 1), n - 1);
+            due(ring + "move(3, n - 1)", ring.with(3, places(n)).move(3, n - 1), 1);
             due(ring + "move(3, n - 1) of p - 1", ring.greatest().move(3, n - 1), ring.p - 1);
             due(ring + "move(3, 1) of 0", ring.zeros().move(3, 1), 0);
         }
@@ -1323,6 +1340,7 @@ public final class BoundariesTest {
             due(ring + "0 times p - 1", ring.zeros().times(3, end), 0);
             due(ring + "p - 1 times 0", ring.greatest().times(3, 0), 0);
             due(ring + "p - 1 times p - 1", ring.greatest().times(3, end), n);
+            due(ring + "the row 3 alone times p - 1", ring.with(3, same(n, 1)).times(3, end), n);
             due(ring + "a last place times p - 1", ring.of(only(n, n - 1, end)).times(0, end), 1);
             due(ring + "a place 0 times 1", ring.of(only(n, 0, end)).times(0, 1), 1);
         }
@@ -1399,6 +1417,9 @@ public final class BoundariesTest {
             due(ring + "of a last place at p - 1", ring.of(only(n, n - 1, end)).point(0, end), 1);
             due(ring + "of a last place at w", ring.of(only(n, n - 1, 1)).point(0, ring.root), ring.rootInverse);
             due(ring + "of a sum of p at 1", ring.of(pair(n, 0, 1, n - 1, end)).point(0, 1), 0);
+            due(ring + "of the row 3 alone at 1", ring.with(3, only(n, n - 1, end)).point(3, 1), end);
+            int atRoot = ring.with(3, only(n, n - 1, 1)).point(3, ring.root);
+            due(ring + "of the row 3 alone at w", atRoot, ring.rootInverse);
             changesNothing(ring, "point(3, p - 1)", x -> x.point(3, end));
         }
     }
@@ -1412,6 +1433,7 @@ public final class BoundariesTest {
             due(ring + "of 0 at 0", ring.zeros().point(3, 0), 0);
             due(ring + "of all but the place 0 at 0", ring.of(pair(n, 1, end, n - 1, end)).point(0, 0), 0);
             due(ring + "of the place 0 at 0", ring.of(only(n, 0, end)).point(0, 0), end);
+            due(ring + "of the place 0 of the row 3 at 0", ring.with(3, only(n, 0, end)).point(3, 0), end);
             due(ring + "of the place 0 at p - 1", ring.of(only(n, 0, end)).point(0, end), end);
         }
     }
@@ -1789,6 +1811,7 @@ public final class BoundariesTest {
             due(ring + "of 1 at the place 0", ring.of(only(n, 0, 1)).mean(0), parts[at]);
             due(ring + "of 1 at the last place", ring.of(only(n, n - 1, 1)).mean(0), parts[at]);
             due(ring + "of a sum of p", ring.of(pair(n, 0, 1, n - 1, end)).mean(0), parts[at] * ring.p);
+            due(ring + "of the row 3 alone", ring.with(3, only(n, n - 1, end)).mean(3), parts[at] * end);
             ToneButterflies x = ring.greatest();
             x.set(3, n - 1, end - 1);
             due(ring + "of p - 1 but for one", x.mean(3), end - parts[at]);
