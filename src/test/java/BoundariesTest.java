@@ -31,6 +31,10 @@ public final class BoundariesTest {
         Object on(ToneButterflies x, int row);
     }
 
+    private interface PairCall {
+        Object on(ToneButterflies x, int a, int b);
+    }
+
     public static void main(String[] args) {
         terms();
         termsOfRows();
@@ -280,6 +284,35 @@ public final class BoundariesTest {
         }
     }
 
+    /** What the rows a and b answer and become is the same, whatever the rows before and behind them have. */
+    private static void othersDoNotMatter(String call, PairCall made) {
+        for (Ring ring : RINGS) {
+            for (int a = 0; a < 4; a++) {
+                for (int b = 0; b < 4; b++) {
+                    ToneButterflies x = ring.filled();
+                    Object want = made.on(x, a, b);
+                    ToneButterflies zeros = othersAre(ring, a, b, 0);
+                    ToneButterflies greatest = othersAre(ring, a, b, ring.p - 1);
+                    String with = ring + call + " with " + a + ", " + b;
+                    due(with + " beside rows of 0", made.on(zeros, a, b), want);
+                    due(with + " beside rows of p - 1", made.on(greatest, a, b), want);
+                    due(with + " beside rows of 0, the row", numbers(zeros, ring.n, a), numbers(x, ring.n, a));
+                    due(with + " beside rows of p - 1, the row", numbers(greatest, ring.n, a), numbers(x, ring.n, a));
+                }
+            }
+        }
+    }
+
+    private static ToneButterflies othersAre(Ring ring, int a, int b, int number) {
+        ToneButterflies x = ring.filled();
+        for (int row = 0; row < 4; row++) {
+            if (row != a && row != b) {
+                put(x, row, same(ring.n, number));
+            }
+        }
+        return x;
+    }
+
     // ---- What it is, and Terms
 
     private static void terms() {
@@ -481,6 +514,7 @@ public final class BoundariesTest {
 
     private static void termsOfRows() {
         fourRows();
+        rowsHaveTheirOwnNumbers();
         tonesGoRoundThePowers();
         turnedBackGoesRoundThePowers();
         mirroredBits();
@@ -513,6 +547,34 @@ public final class BoundariesTest {
         othersStay("join(row, 1, 2)", (x, row) -> x.join(row, 1, 2));
         othersStay("move(row, n - 1)", (x, row) -> x.move(row, x.count(0) - 1));
         othersStay("times(row, 2)", (x, row) -> x.times(row, 2));
+    }
+
+    private static void rowsHaveTheirOwnNumbers() {
+        sentence("Terms", "There are four, 0 to 3, each with n numbers");
+        othersDoNotMatter("copy", (x, a, b) -> x.copy(b, a));
+        othersDoNotMatter("turn", (x, a, b) -> x.turn(a, false));
+        othersDoNotMatter("turn back", (x, a, b) -> x.turn(a, true));
+        othersDoNotMatter("mirror", (x, a, b) -> x.mirror(a));
+        othersDoNotMatter("the first stage", (x, a, b) -> x.stage(a, 0));
+        othersDoNotMatter("the last stage", (x, a, b) -> x.stage(a, x.count(5) - 1));
+        othersDoNotMatter("fold", (x, a, b) -> x.fold(a, b));
+        othersDoNotMatter("join by sums", (x, a, b) -> x.join(a, b, 0));
+        othersDoNotMatter("join by differences", (x, a, b) -> x.join(a, b, 1));
+        othersDoNotMatter("join by products", (x, a, b) -> x.join(a, b, 2));
+        othersDoNotMatter("move by 1", (x, a, b) -> x.move(a, 1));
+        othersDoNotMatter("move by n - 1", (x, a, b) -> x.move(a, x.count(0) - 1));
+        othersDoNotMatter("times", (x, a, b) -> x.times(a, 2));
+        othersDoNotMatter("point", (x, a, b) -> x.point(a, 2));
+        for (int what = 0; what < 5; what++) {
+            int way = what;
+            othersDoNotMatter("about " + way, (x, a, b) -> x.about(a, way));
+        }
+        othersDoNotMatter("would at 0", (x, a, b) -> x.would(a, b, 0));
+        othersDoNotMatter("would at n - 1", (x, a, b) -> x.would(a, b, x.count(0) - 1));
+        othersDoNotMatter("comes", (x, a, b) -> x.comes(a, b));
+        othersDoNotMatter("advise", (x, a, b) -> x.advise(a, b));
+        othersDoNotMatter("tones", (x, a, b) -> x.tones(a, b));
+        othersDoNotMatter("mean", (x, a, b) -> x.mean(a));
     }
 
     private static void tonesGoRoundThePowers() {
